@@ -34,7 +34,7 @@ public final class EachRoadOnce {
     private final Trails trails = new Trails();
     private final int[] milesOfOne = new int[PLACES];
     private final int[] milesOfOther = new int[PLACES];
-    private final int[] refusals = new int[FINE - FULL - 1];
+    private final int[] refusals = new int[BAD - FULL + 1];
     private boolean hasKept;
 
     public EachRoadOnce() {
@@ -682,6 +682,8 @@ public final class EachRoadOnce {
     private static final class Land {
         final int[] from = new int[ROADS];
         final int[] to = new int[ROADS];
+        /** Both PLACES as bits, kept beside them since going through nets asks for them most. */
+        final int[] ends = new int[ROADS];
         final int[] miles = new int[ROADS];
         final int[] home = new int[PEOPLE];
         final int[] place = new int[PEOPLE];
@@ -705,6 +707,7 @@ public final class EachRoadOnce {
         void become(Land other) {
             System.arraycopy(other.from, 0, from, 0, ROADS);
             System.arraycopy(other.to, 0, to, 0, ROADS);
+            System.arraycopy(other.ends, 0, ends, 0, ROADS);
             System.arraycopy(other.miles, 0, miles, 0, ROADS);
             System.arraycopy(other.home, 0, home, 0, PEOPLE);
             System.arraycopy(other.place, 0, place, 0, PEOPLE);
@@ -725,6 +728,7 @@ public final class EachRoadOnce {
             int road = roads;
             from[road] = a;
             to[road] = b;
+            ends[road] = 1 << a | 1 << b;
             miles[road] = length;
             if (isRound) {
                 roundRoads |= 1 << road;
@@ -765,10 +769,6 @@ public final class EachRoadOnce {
             return from[road] == end ? to[road] : from[road];
         }
 
-        int endsOf(int road) {
-            return 1 << from[road] | 1 << to[road];
-        }
-
         private boolean isFresh(int one, int road) {
             int last = lastYear(one, road);
             return last == NONE || anew > 0 && year - last >= anew;
@@ -791,7 +791,7 @@ public final class EachRoadOnce {
         int roadsAt(int end, int among) {
             int found = 0;
             for (int road = 0; road < roads; road++) {
-                if (has(among, road) && has(endsOf(road), end)) {
+                if (has(among, road) && has(ends[road], end)) {
                     found |= 1 << road;
                 }
             }
@@ -810,8 +810,8 @@ public final class EachRoadOnce {
             for (int round = 0; round < PLACES && grows; round++) {
                 int ahead = found;
                 for (int road = 0; road < roads; road++) {
-                    if (has(among, road) && (found & endsOf(road)) != 0) {
-                        found |= endsOf(road);
+                    if ((among >> road & 1) != 0 && (found & ends[road]) != 0) {
+                        found |= ends[road];
                     }
                 }
                 grows = found != ahead;
@@ -827,11 +827,10 @@ public final class EachRoadOnce {
             return has(reachOf(one), home[one]);
         }
 
-        /** Whether one is SAFE still behind a ROAD that is LEFT to them at their PLACE. */
-        boolean isSafeBehind(int one, int road) {
+        /** Whether one is SAFE still behind a ROAD at their PLACE, of those that are LEFT to them. */
+        boolean isSafeBehind(int one, int road, int left) {
             int usedUp = 1 << road & ~roundRoads;
-            int reached = flood(otherEnd(road, place[one]), leftTo(one) & ~usedUp);
-            return has(reached, home[one]);
+            return has(flood(otherEnd(road, place[one]), left & ~usedUp), home[one]);
         }
 
         int goneInAll() {
@@ -951,9 +950,10 @@ public final class EachRoadOnce {
         }
 
         private static int keeping(Land land, int one, int among) {
+            int left = land.leftTo(one);
             int found = 0;
             for (int road = 0; road < land.roads; road++) {
-                if (has(among, road) && land.isSafeBehind(one, road)) {
+                if (has(among, road) && land.isSafeBehind(one, road, left)) {
                     found |= 1 << road;
                 }
             }
@@ -978,7 +978,7 @@ public final class EachRoadOnce {
             int odd = 0;
             for (int road = 0; road < land.roads; road++) {
                 if (has(roads, road)) {
-                    odd ^= land.endsOf(road);
+                    odd ^= land.ends[road];
                 }
             }
             return odd;
@@ -998,19 +998,27 @@ public final class EachRoadOnce {
             int ends = 0;
             for (int road = 0; road < land.roads; road++) {
                 if (has(roads, road)) {
-                    ends |= land.endsOf(road);
+                    ends |= land.ends[road];
                 }
             }
             return ends;
         }
 
         static int partsOf(Land land, int roads) {
+            return partsWithout(land, 0, roads);
+        }
+
+        /** How many PARTS have none of some PLACES. */
+        private static int partsWithout(Land land, int places, int roads) {
             int rest = endsOfAll(land, roads);
             int parts = 0;
             for (int place = 0; place < PLACES; place++) {
                 if (has(rest, place)) {
-                    rest &= ~land.flood(place, roads);
-                    parts++;
+                    int part = land.flood(place, roads);
+                    rest &= ~part;
+                    if ((part & places) == 0) {
+                        parts++;
+                    }
                 }
             }
             return parts;
@@ -1069,21 +1077,6 @@ public final class EachRoadOnce {
             return partsOf(land, roads) > 1 ? joined + partsWithout(land, odd, roads) : joined;
         }
 
-        private static int partsWithout(Land land, int odd, int roads) {
-            int rest = endsOfAll(land, roads);
-            int parts = 0;
-            for (int place = 0; place < PLACES; place++) {
-                if (has(rest, place)) {
-                    int part = land.flood(place, roads);
-                    rest &= ~part;
-                    if ((part & odd) == 0) {
-                        parts++;
-                    }
-                }
-            }
-            return parts;
-        }
-
         private static int leaving(Land land, int set, int roads) {
             int count = 0;
             for (int road = 0; road < land.roads; road++) {
@@ -1101,20 +1094,18 @@ public final class EachRoadOnce {
 
         static int cutOf(Land land, int roads, int start, int goal) {
             int fewest = ROADS + 1;
-            int common = 0;
+            int least = 0;
+            // What two such sets have in common is such a set: one of them is in all, and comes ahead of the others.
             for (int set = 0; set < 1 << PLACES; set++) {
                 if (has(set, start) && !has(set, goal)) {
                     int count = leaving(land, set, roads);
                     if (count < fewest) {
                         fewest = count;
-                        common = set;
-                    } else if (count == fewest) {
-                        // What two such sets have in common is such a set itself.
-                        common &= set;
+                        least = set;
                     }
                 }
             }
-            return common;
+            return least;
         }
 
         /** Puts the fewest MILES to every PLACE into a row; NONE where the ROADS don't lead. */
@@ -1155,6 +1146,9 @@ public final class EachRoadOnce {
 
         private final int[] ends = new int[TRAIL_ROADS];
         private final int[] miles = new int[TRAIL_ROADS];
+        /** A ROAD's two PLACES added up: less the one, it is the other. */
+        private final int[] sums = new int[TRAIL_ROADS];
+        private final int[] roadsAt = new int[PLACES];
         private int count;
         private int start;
         /** For each set of ROADS: wants met at most, times PLACES, and the PLACE at the end; NONE: no life goes so. */
@@ -1162,10 +1156,14 @@ public final class EachRoadOnce {
 
         void take(Land land, int among) {
             count = 0;
+            Arrays.fill(roadsAt, 0);
             for (int road = 0; road < land.roads && count < TRAIL_ROADS; road++) {
                 if (has(among, road)) {
-                    ends[count] = land.endsOf(road);
+                    ends[count] = land.ends[road];
                     miles[count] = land.miles[road];
+                    sums[count] = land.from[road] + land.to[road];
+                    roadsAt[land.from[road]] |= 1 << count;
+                    roadsAt[land.to[road]] |= 1 << count;
                     count++;
                 }
             }
@@ -1187,18 +1185,15 @@ public final class EachRoadOnce {
         private void spreadFrom(int set, Shelf wants, int n) {
             int met = table[set] / PLACES;
             int place = table[set] % PLACES;
+            int fresh = roadsAt[place] & ~set;
             for (int i = 0; i < count; i++) {
-                if (!has(set, i) && has(ends[i], place)) {
-                    int end = placeOf(ends[i] ^ 1 << place);
+                if ((fresh >> i & 1) != 0) {
+                    int end = sums[i] - place;
                     int life = metAt(end, met, wants, n) * PLACES + end;
                     int further = set | 1 << i;
                     table[further] = Math.max(table[further], life);
                 }
             }
-        }
-
-        private static int placeOf(int bit) {
-            return Integer.bitCount(bit - 1);
         }
 
         /** How many wants are met at a PLACE by one who has met so many of them. */

@@ -120,6 +120,8 @@ public final class CanBeTest {
         check.due("most roads", x.longest(0, 0), 5);
         check.due("most miles", x.longest(0, 1), 62);
         check.due("most places", x.longest(0, 2), 5);
+        EachRoadOnce far = Check.read("road 5 6 miles 1;road 6 7 miles 2;one 5");
+        check.due("most places far from 0", far.longest(0, 2), 3);
         EachRoadOnce many = new EachRoadOnce();
         many.one(0);
         for (int i = 0; i < 12; i++) {
@@ -293,6 +295,9 @@ public final class CanBeTest {
         check.due("nobody", x.send(3, 2), 0);
         x.shut(2, true);
         check.asks("nobody for a shut one", x, y -> y.send(0, 2), -1);
+        x.one(4);
+        x.one(4);
+        check.due("nobody of all six", x.send(0, 2), -1);
         check.refused("send for -1", two(), y -> y.send(-1, 0), Check.BAD);
         check.refused("send for 3", two(), y -> y.send(3, 0), Check.BAD);
         check.refused("send along -1", two(), y -> y.send(0, -1), Check.BAD);

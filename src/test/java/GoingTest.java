@@ -188,6 +188,9 @@ public final class GoingTest {
         check.due("run by LOW", star().run(6, 1, 60, 0), 3);
         check.due("run by LOW", star().run(6, 1, 60, 1), 15);
         check.due("run by LOW", star().run(6, 1, 60, 2), 2);
+        EachRoadOnce gone = star();
+        Check.go(gone, 1, 0);
+        check.due("miles of the run alone", gone.run(6, 1, 60, 1), 11);
         runRefusals();
     }
 
@@ -291,6 +294,10 @@ public final class GoingTest {
         check.asks("told of none, where", tale(3, 9), x -> x.told(1, 0, 0, 0), 0);
         check.asks("told of none, miles", tale(3, 9), x -> x.told(1, 0, 0, 1), 0);
         check.asks("told of none, places", tale(3, 9), x -> x.told(1, 0, 0, 2), 1);
+        EachRoadOnce gone = tale(3, 4, 1);
+        Check.go(gone, 1, 0);
+        check.due("miles of the tale alone", gone.told(1, 0, 2, 1), 11);
+        check.due("places of the tale alone", gone.told(1, 0, 1, 2), 3);
         check.refused("told what can't be", tale(3, 2, 3, 0, 9), x -> x.told(1, 0, 4, 0), Check.STUCK);
         check.refused("told what can't be", tale(3, 2, 1), x -> x.told(1, 0, 2, 2), Check.STUCK);
         check.refused("told of nobody", star(), x -> x.told(-1, 1, 0, 0), Check.BAD);

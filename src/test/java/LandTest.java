@@ -153,6 +153,9 @@ public final class LandTest {
         check.due("no refusals", x.status(12), 0);
         check.due("one statement", Check.landOf(x, "shut 2"), 1);
         check.due("is shut still", x.roadOf(2, 3), 1);
+        check.due("shut more", Check.landOf(x, "shut 0;at 1 7"), 2);
+        check.due("shut roads", x.status(8), 2);
+        check.due("at the last place", x.oneOf(1, 1), 7);
         check.due("gone along a shut one", Check.landOf(x, "gone 0 2"), 1);
         check.due("gone along it", x.oneOf(0, 3), 1);
     }
@@ -175,7 +178,7 @@ public final class LandTest {
         String[] told = {
             "", "   ", "!;", "one 1;", "one 1;  ", "one 1;!;one 1", "road", "road 1", "road 1 2", "road 1 2 miles",
             "road 1 2 miles 3;", "gone", "gone 1", "at", "at 1", "anew", "shut", "one", "one ",
-            "!roads 1 2 miles 3", "!roa 1 2", "!miles 3", "!round", "!5", "!One 1", "!\u00e9", "!\u0000", "!\t one 1", "!-1",
+            "!roads 1 2 miles 3", "!roadz 1", "!xoad 1 2 miles 3", "!azat", "!roa 1 2", "!miles 3", "!round", "!5", "!One 1", "!\u00e9", "!\u0000", "!\t one 1", "!-1",
             "road !8 2 miles 3", "road 1 !8 miles 3", "road !001 2 miles 3", "road !x", "road 1 !1 miles 2", "road 1 !01 miles 2",
             "road 1 !miles", "road 1 2 !3", "road 1 2 !mile 3", "road 1 2 miles !0", "road 1 2 miles !61", "road 1 2 miles !100",
             "road 1 2 miles !round", "road 1 2 miles 3 !4", "road 1 2 miles 3 !rounds", "road 1 2 miles 3 round !round",

@@ -190,6 +190,8 @@ public final class ShelfTest {
         EachRoadOnce x = fork();
         x.rule(5, 5, 0);
         check.due("home by 0 at home", x.says(5, 5), -1);
+        x.rule(5, 5, 1);
+        check.due("home by 1 at home, as the first", x.says(5, 5), 2);
         Check.go(x, 0, 1);
         check.due("none left there", x.says(1, 1), -1);
     }
