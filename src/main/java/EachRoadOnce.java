@@ -921,19 +921,17 @@ public final class EachRoadOnce {
         }
 
         private static int nearest(Land land, int among) {
-            int best = NONE;
-            for (int road = 0; road < land.roads; road++) {
-                if (has(among, road) && (best == NONE || land.miles[road] < land.miles[best])) {
-                    best = road;
-                }
-            }
-            return best;
+            return leastBy(land, among, 1);
         }
 
         private static int farthest(Land land, int among) {
+            return leastBy(land, among, -1);
+        }
+
+        private static int leastBy(Land land, int among, int sign) {
             int best = NONE;
             for (int road = 0; road < land.roads; road++) {
-                if (has(among, road) && (best == NONE || land.miles[road] > land.miles[best])) {
+                if (has(among, road) && (best == NONE || sign * land.miles[road] < sign * land.miles[best])) {
                     best = road;
                 }
             }
