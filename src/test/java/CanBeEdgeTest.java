@@ -415,7 +415,11 @@ public final class CanBeEdgeTest {
         edges.range("what, each by their own", meet, v -> x -> x.together(0, 1, v), 0, 2, v -> want[v]);
         edges.asks("by ROUND ones, too", land("road 0 1 miles 9 round;one 0;one 1"), x -> x.together(0, 1, 1), 9);
         edges.asks("of several the first", land("road 6 7 miles 9;one 7;one 6"), x -> x.together(0, 1, 2), 6);
-        edges.asks("at the last PLACE", land("one 7;one 7"), x -> x.together(0, 1, 2), 7);
+        for (int place = 0; place < 8; place++) {
+            edges.asks("both at " + place, land("one " + place + ";one " + place), x -> x.together(0, 1, 0), 1 << place);
+            edges.asks("both at " + place + ", the sum", land("one " + place + ";one " + place), x -> x.together(0, 1, 1), 0);
+            edges.asks("both at " + place + ", the PLACE", land("one " + place + ";one " + place), x -> x.together(0, 1, 2), place);
+        }
     }
 
     private static void frees() {

@@ -207,6 +207,10 @@ public final class GoingEdgeTest {
         edges.asks("of several", ruled("road 0 1 miles 1;road 0 2 miles 4;road 0 3 miles 4;road 0 4 miles 4;one 0"), x -> x.next(4, 0), 1);
         edges.asks("59 and 60", ruled("road 0 1 miles 59;road 0 2 miles 60;one 0"), x -> x.next(4, 0), 1);
         edges.asks("the first of sixteen", FULL, x -> x.next(5, 0), 0);
+        for (int kind = 1; kind <= 6; kind++) {
+            int k = kind;
+            edges.fine("KIND " + kind + " of sixteen", FULL, x -> x.rule(0, k, 99) == 1 ? x.next(0, 5) : Check.BAD, kind == 4 || kind == 6 ? 0 : 15);
+        }
         edges.of(25, "6 LOW, under RULE: the least number");
         edges.asks("whatever the MILES", ruled("road 0 1 miles 30;road 0 2 miles 60;road 0 3 miles 1;one 0"), x -> x.next(6, 0), 0);
         edges.asks("the first that is LEFT", ruled("road 0 1 miles 30;road 0 2 miles 60;road 0 3 miles 1;one 0;shut 0"), x -> x.next(6, 0), 1);
@@ -270,6 +274,14 @@ public final class GoingEdgeTest {
         Supplier<EachRoadOnce> been = ruled("road 0 1 miles 5;one 7;at 0 6;at 0 0");
         edges.asks("PLACES BEEN ahead, too", been, x -> x.run(1, 0, 60, 3), 0xc3);
         edges.asks("PLACES BEEN ahead of none", been, x -> x.run(1, 0, 0, 3), 0xc1);
+        edges.of(26, "how many were gone along (what 0), MILES (1)");
+        Supplier<EachRoadOnce> gone = () -> {
+            EachRoadOnce x = line.get();
+            x.go(0, 0);
+            return x;
+        };
+        edges.asks("how many of the RUN alone", gone, x -> x.run(1, 0, 60, 0), 1);
+        edges.asks("MILES of the RUN alone", gone, x -> x.run(1, 0, 60, 1), 6);
         edges.of(26, "from how all is now, nothing being changed");
         for (int what = 0; what <= 4; what++) {
             int w = what;
@@ -459,6 +471,12 @@ public final class GoingEdgeTest {
             int w = what;
             edges.asks("nothing changes, what " + what, tale(2, 0, 1), x -> x.told(0, 0, 2, w), want[what]);
         }
+        int[] behind = {2, 7, 6};
+        edges.range("what of the tale alone, not of what was gone along ahead", () -> {
+            EachRoadOnce x = tale(2, 1, 2).get();
+            x.go(0, 0);
+            return x;
+        }, v -> x -> x.told(0, 0, 1, v), 0, 2, v -> behind[v]);
     }
 
     private static void toldOrder() {

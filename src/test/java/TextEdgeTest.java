@@ -162,6 +162,13 @@ public final class TextEdgeTest {
     }
 
     private static void tokens() {
+        edges.of(15, "TOKENS, each as long as can be: WORDS (a .. z)");
+        String[] texts = {"road 0 1 miles 3 round", "one 1", "gone 0 0", "at 0 0", "anew 1", "shut 0"};
+        for (String text : texts) {
+            for (String word : text.split("[^a-z]+")) {
+                wordsLike(text, word);
+            }
+        }
         edges.of(15, "TOKENS, each as long as can be");
         edges.fault("oneone is one word", RICH, "oneone 1", 0);
         edges.fault("roundround is one word", RICH, "road 0 1 miles 3 roundround", 17);
@@ -182,6 +189,29 @@ public final class TextEdgeTest {
         edges.fault("three digits of MILES", RICH, "road 0 1 miles 060", 15);
         edges.fault("250 bytes less a few of digits", RICH, "anew " + "0".repeat(245), 5);
         edges.fault("as many digits as wrap round to 1", RICH, "anew 4294967297", 5);
+    }
+
+    /** The text with a word in place of which stands one of a letter more, less, or another one. */
+    private static void wordsLike(String text, String word) {
+        int place = text.indexOf(word);
+        String ahead = text.substring(0, place);
+        String rest = text.substring(place + word.length());
+        List<String> like = new ArrayList<>();
+        for (char letter = 'a'; letter <= 'z'; letter++) {
+            like.add(letter + word);
+            like.add(word + letter);
+        }
+        for (int i = 0; i < word.length(); i++) {
+            like.add(word.substring(0, i) + word.substring(i + 1));
+            for (char letter : new char[] {'a', 'm', 'z'}) {
+                like.add(word.substring(0, i) + letter + word.substring(i + 1));
+            }
+        }
+        like.remove(word);
+        like.removeAll(FIRST);
+        for (String other : like) {
+            edges.fault("<" + ahead + other + rest + ">", RICH, ahead + other + rest, place);
+        }
     }
 
     private static void strangeBytes() {
