@@ -112,7 +112,7 @@ public final class CanBeEdgeTest {
         edges.asks("two ODD PLACES, a round apart", land("road 0 1 miles 1;road 2 3 miles 1;road 2 3 miles 1;one 0"), x -> x.all(0), 0);
         edges.asks("sixteen", many(16), x -> x.all(0), 2);
         edges.asks("fifteen", many(15), x -> x.all(0), 1);
-        edges.of(32, "from where they are");
+        edges.of(32, "ALL IN ONE: whether one can go along all of them one behind the other from where they are; A ROUND: and be there again.");
         edges.asks("not from HOME", land("road 0 1 miles 1;one 0;at 0 2"), x -> x.all(0), 0);
         edges.asks("HOME elsewhere", land("road 0 1 miles 1;one 5;at 0 1"), x -> x.all(0), 1);
     }
@@ -275,6 +275,37 @@ public final class CanBeEdgeTest {
         edges.asks("seven PLACES", land("one 0;road0 1miles1;road0 1miles1;road1 2miles1;road1 2miles1;road2 3miles1;road2 3miles1;road3 4miles1;road3 4miles1;"
             + "road4 5miles1;road4 5miles1;road5 6miles1;road5 6miles1;road6 7miles1"), x -> x.cut(0, 0, 7), 127);
         edges.asks("nothing changes", FULL, x -> x.cut(0, 7, 0), 254);
+        edges.of(37, "the least (its PLACES are in all such sets)");
+        int[][] roads = {{0, 1}, {1, 2}, {0, 2}, {2, 3}, {3, 4}, {3, 5}, {4, 5}, {5, 6}, {6, 4}};
+        EachRoadOnce x = new EachRoadOnce();
+        x.one(0);
+        for (int[] road : roads) {
+            x.road(road[0], road[1], 1, false);
+        }
+        for (int a = 0; a < 8; a++) {
+            for (int b = 0; b < 8; b++) {
+                if (a != b) {
+                    edges.due("from " + a + " to " + b, x.cut(0, a, b), inAllSuchSets(roads, a, b));
+                }
+            }
+        }
+    }
+
+    /** What is common to all sets with a, without b, that the fewest ROADS leave. */
+    private static int inAllSuchSets(int[][] roads, int a, int b) {
+        int fewest = roads.length + 1;
+        int common = 0;
+        for (int set = 0; set < 256; set++) {
+            if ((set >> a & 1) == 1 && (set >> b & 1) == 0) {
+                int leaving = 0;
+                for (int[] road : roads) {
+                    leaving += (set >> road[0] & 1) != (set >> road[1] & 1) ? 1 : 0;
+                }
+                common = leaving < fewest ? set : leaving == fewest ? common & set : common;
+                fewest = Math.min(fewest, leaving);
+            }
+        }
+        return common;
     }
 
     private static void meets() {
@@ -283,6 +314,17 @@ public final class CanBeEdgeTest {
         edges.range("n of one ROAD", many(1), v -> x -> x.meets(0, 0, v), 0, 8, v -> Math.min(v, 1));
         edges.range("n of three ROADS", many(3), v -> x -> x.meets(0, 0, v), 0, 8, v -> Math.min(v, 3));
         edges.range("n of no ROADS", many(0), v -> x -> x.meets(0, 0, v), 0, 8, v -> 0);
+        edges.of(38, "MEETS of the first n elements (0 to 8) of the ROW in SHELF s");
+        for (int s = 0; s < 8; s++) {
+            int shelf = s;
+            edges.asks("SHELF " + s, () -> {
+                EachRoadOnce x = Check.read("road 4 5 miles 1;one 4");
+                x.row(shelf, 1, 40);
+                x.set(shelf, 0, 4);
+                x.set(shelf, 1, 5);
+                return x;
+            }, x -> x.meets(0, shelf, 8), 2);
+        }
         edges.of(38, "(a want is met where one is; a ROAD but once)");
         wants("where one is", 1, "one 4", 4);
         wants("where one is, time and again", 8, "one 4", 4, 4, 4, 4, 4, 4, 4, 4);
@@ -437,6 +479,13 @@ public final class CanBeEdgeTest {
         edges.asks("by a ROUND one that is gone along", land("road 1 2 miles 1 round;one 1;at 0 7;gone 0 0"), x -> x.frees(0), 6);
         edges.asks("not where one is", land("road 1 2 miles 1;road 2 3 miles 1;one 1;at 0 2"), x -> x.frees(0), 10);
         edges.asks("all seven others", FULL, x -> x.frees(3), 0x7f);
+        edges.of(41, "(a ROAD built there would make them SAFE)");
+        Supplier<EachRoadOnce> lost = land("road 1 2 miles 1;road 3 4 miles 1;one 1;at 0 7");
+        edges.asks("not SAFE", lost, x -> x.safe(0), 0);
+        for (int place = 0; place < 7; place++) {
+            int p = place;
+            edges.fine("a ROAD built to " + place, lost, x -> x.road(7, p, 1, false) == 2 ? x.safe(0) : Check.BAD, 6 >> place & 1);
+        }
     }
 
     private static void send() {

@@ -122,25 +122,33 @@ public final class CanBeTest {
         check.due("most places", x.longest(0, 2), 5);
         EachRoadOnce far = Check.read("road 5 6 miles 1;road 6 7 miles 2;one 5");
         check.due("most places far from 0", far.longest(0, 2), 3);
-        EachRoadOnce many = new EachRoadOnce();
-        many.one(0);
-        for (int i = 0; i < 12; i++) {
-            many.road(0, 1, 60, false);
-        }
-        many.road(0, 2, 1, true);
+        EachRoadOnce many = twelve();
         check.due("twelve, roads", many.longest(0, 0), 12);
         check.due("twelve, miles", many.longest(0, 1), 720);
         check.due("twelve, places", many.longest(0, 2), 2);
         many.road(6, 7, 1, false);
         check.refused("thirteen", many, y -> y.longest(0, 0), Check.STUCK);
-        Check.go(many, 0, 3);
-        check.due("twelve again", many.longest(0, 0), 11);
-        many.shut(12, true);
-        check.due("the round one aside", many.longest(0, 2), 2);
-        check.refused("longest(-1)", many, y -> y.longest(-1, 0), Check.BAD);
+        EachRoadOnce again = twelve();
+        again.road(6, 7, 1, false);
+        Check.go(again, 0, 3);
+        check.due("twelve again", again.longest(0, 0), 11);
+        again.shut(12, true);
+        check.due("the round one aside", again.longest(0, 2), 2);
+        check.refused("longest(-1)", twelve(), y -> y.longest(-1, 0), Check.BAD);
         check.refused("longest(3)", two(), y -> y.longest(3, 0), Check.BAD);
         check.refused("longest what -1", two(), y -> y.longest(0, -1), Check.BAD);
         check.refused("longest what 3", two(), y -> y.longest(0, 3), Check.BAD);
+    }
+
+    /** Twelve ROADS between 0 and 1, and a ROUND one. */
+    private static EachRoadOnce twelve() {
+        EachRoadOnce x = new EachRoadOnce();
+        x.one(0);
+        for (int i = 0; i < 12; i++) {
+            x.road(0, 1, 60, false);
+        }
+        x.road(0, 2, 1, true);
+        return x;
     }
 
     private static void errands() {
@@ -202,21 +210,29 @@ public final class CanBeTest {
         Check.fill(fewer, 0, 0, 0, 5, 1);
         check.due("meets of the first one", fewer.meets(0, 0, 1), 1);
         check.due("meets of the first none", fewer.meets(0, 0, 0), 0);
-        EachRoadOnce many = new EachRoadOnce();
-        many.one(0);
-        for (int i = 0; i < 10; i++) {
-            many.road(0, 1, 1, false);
-        }
-        Check.fill(many, 0, 0, 1, 0, 1, 0, 1, 0, 1, 0);
+        EachRoadOnce many = ten();
         check.due("meets by ten roads", many.meets(0, 0, 8), 8);
         many.road(2, 3, 1, true);
         check.due("a round one aside", many.meets(0, 0, 8), 8);
         many.road(2, 3, 1, false);
         check.refused("meets by eleven roads", many, x -> x.meets(0, 0, 8), Check.STUCK);
-        check.refused("meets by eleven roads of fewer", many, x -> x.meets(0, 7, 8), Check.NOTHING);
-        many.row(1, 0, 2);
-        check.refused("meets of too few by eleven roads", many, x -> x.meets(0, 1, 3), Check.BAD);
+        EachRoadOnce eleven = ten();
+        eleven.road(2, 3, 1, false);
+        eleven.row(1, 0, 2);
+        check.due("meets by eleven roads of nothing", eleven.meets(0, 7, 8), Check.NOTHING);
+        check.refused("meets of too few by eleven roads", eleven, x -> x.meets(0, 1, 3), Check.BAD);
         meetsRefusals();
+    }
+
+    /** Ten ROADS between 0 and 1, and eight wants there and back. */
+    private static EachRoadOnce ten() {
+        EachRoadOnce x = new EachRoadOnce();
+        x.one(0);
+        for (int i = 0; i < 10; i++) {
+            x.road(0, 1, 1, false);
+        }
+        Check.fill(x, 0, 0, 1, 0, 1, 0, 1, 0, 1, 0);
+        return x;
     }
 
     private static void meetsRefusals() {

@@ -41,6 +41,14 @@ public final class GoingEdgeTest {
         edges.refused("one 0 where there are none", EMPTY, x -> x.left(0), Check.BAD);
         edges.asks("of no ROADS", land("one 0"), x -> x.left(0), 0);
         edges.asks("nothing changes", FULL, x -> x.left(5), 0xffff);
+        edges.of(19, "LEFT to one: open ROADS");
+        edges.range("each of six of their own", () -> {
+            EachRoadOnce x = Edges.full();
+            for (int one = 0; one < 6; one++) {
+                x.go(one, 2 * one);
+            }
+            return x;
+        }, v -> x -> x.left(v), 0, 5, v -> 0xffff & ~(1 << 2 * v));
         edges.of(19, "open ROADS that are ROUND, or not gone along (or ANEW YEARS ago at least)");
         String roads = "road 0 1 miles 1;road 0 1 miles 1 round;road 0 1 miles 1;road 0 1 miles 1 round;one 0;gone 0 0;gone 0 1";
         edges.asks("gone along, gone along ROUND, not gone along, ROUND", land(roads), x -> x.left(0), 14);
@@ -69,9 +77,11 @@ public final class GoingEdgeTest {
 
     private static void reach() {
         edges.of(21, "REACH of one: PLACES to which LEFT ROADS lead from where they are, one behind the other, that PLACE, too.");
+        edges.of(21, "REACH. BAD.");
         edges.range("one", RICH, v -> x -> x.reach(v), 0, 1, v -> 7);
         edges.range("one of six", FULL, v -> x -> x.reach(v), 0, 5, v -> 255);
         edges.refused("one 0 where there are none", EMPTY, x -> x.reach(0), Check.BAD);
+        edges.of(21, "one behind the other, that PLACE, too.");
         for (int place = 0; place < 8; place++) {
             edges.asks("that PLACE alone", land("one " + place), x -> x.reach(0), 1 << place);
         }
@@ -87,9 +97,11 @@ public final class GoingEdgeTest {
 
     private static void safe() {
         edges.of(22, "SAFE: HOME is in REACH.");
+        edges.of(22, "1 if one is SAFE, else 0. BAD.");
         edges.range("one", RICH, v -> x -> x.safe(v), 0, 1, v -> 1);
         edges.range("one of six", FULL, v -> x -> x.safe(v), 0, 5, v -> 1);
         edges.refused("one 0 where there are none", EMPTY, x -> x.safe(0), Check.BAD);
+        edges.of(22, "SAFE: HOME is in REACH.");
         edges.asks("at HOME without ROADS", land("one 7"), x -> x.safe(0), 1);
         edges.asks("elsewhere without ROADS: 0 isn't refused", land("one 7;at 0 6"), x -> x.safe(0), 0);
         edges.asks("one ROAD away", land("road 6 7 miles 60;one 7;at 0 6"), x -> x.safe(0), 1);
@@ -184,6 +196,7 @@ public final class GoingEdgeTest {
             return x;
         };
         edges.refused("one 0 where there are none", nobody, x -> x.next(1, 0), Check.BAD);
+        edges.of(25, "say which LEFT ROAD one takes next (NONE: none)");
         for (int kind = 1; kind <= 6; kind++) {
             int s = kind;
             edges.asks("KIND " + kind + ", STUCK FAST away from HOME: NONE isn't refused", ruled("road 0 1 miles 3;one 0;at 0 1;shut 0"), x -> x.next(s, 0), -1);
@@ -293,8 +306,10 @@ public final class GoingEdgeTest {
         edges.of(26, "1 if one is SAFE at its end (4). BAD; OTHER; NOTHING.");
         Supplier<EachRoadOnce> made = ruled("road 0 1 miles 60 round;one 0;one 1");
         edges.outside("s", made, v -> x -> x.run(v, 0, 1, 0), 0, 7);
+        edges.of(26, "A RUN of n ROADS at most by the RULE in SHELF s");
         edges.range("s", made, v -> x -> x.rule(v, 6, 0) == 1 ? x.run(v, 0, 3, 0) : Check.BAD, 0, 7, v -> 3);
         edges.range("one", made, v -> x -> x.run(1, v, 1, 2), 0, 1, v -> 1 - v);
+        edges.of(26, "BAD; OTHER; NOTHING.");
         edges.refused("a ROW", made, x -> x.run(0, 0, 0, 0), Check.OTHER);
         edges.refused("NOTHING", made, x -> x.run(7, 0, 0, 0), Check.NOTHING);
         for (int s : new int[] {0, 7}) {

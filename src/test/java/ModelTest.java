@@ -3,8 +3,9 @@ import java.util.Random;
 /** Many runs of calls by draws, each answer held against the Model's: all promises, with numbers that may and may not be. */
 public final class ModelTest {
     private static final Check check = new Check();
-    private static final int RUNS = 1500;
-    private static final int CALLS = 500;
+    private static final int RUNS = 2000;
+    /** So many calls, a last one with a text's bytes and the status at last stay below the 512 that an object is used for. */
+    private static final int CALLS = 390;
     private static final String[] WORDS =
         {"road", "one", "gone", "at", "anew", "shut", "miles", "round", ";", " ", "x", "roads", "#", "7", "100", "61", "0"};
 
@@ -17,6 +18,7 @@ public final class ModelTest {
     private String call = "";
     private long got;
     private long want;
+    private int calls;
 
     private ModelTest(int run) {
         draws = new Random(run);
@@ -32,8 +34,9 @@ public final class ModelTest {
     }
 
     private void calls(int run) {
-        for (int i = 0; i < CALLS; i++) {
-            int which = draws.nextInt(i < 40 ? 30 : 70);
+        while (calls < CALLS) {
+            calls++;
+            int which = draws.nextInt(calls < 40 ? 30 : 70);
             if (which < 16) {
                 build(which);
             } else if (which < 30) {
@@ -43,7 +46,7 @@ public final class ModelTest {
             } else {
                 ask(which - 50);
             }
-            check.due("run " + run + ", call " + i + ": " + call, got, want);
+            check.due("run " + run + ", call " + calls + ": " + call, got, want);
         }
         for (int what = -1; what <= 17; what++) {
             check.due("run " + run + ", at last status(" + what + ")", x.status(what), m.status(what));
@@ -122,6 +125,7 @@ public final class ModelTest {
             text.setLength(draws.nextInt(text.length()));
         }
         for (int i = 0; i < text.length(); i++) {
+            calls++;
             x.feed(text.charAt(i), 1);
             m.feed(text.charAt(i), 1);
         }
@@ -267,6 +271,7 @@ public final class ModelTest {
         int size = ((Model.Row) m.shelves[s]).e.length;
         for (int i = 0; i < size && i < 5 && !v.here(o).isEmpty(); i++) {
             int road = v.here(o).get(draws.nextInt(v.here(o).size()));
+            calls++;
             x.set(s, i, road);
             m.set(s, i, road);
             v.go(o, road);

@@ -38,6 +38,8 @@ public final class ShelfEdgeTest {
         }
         edges.asks("THE TAPE", EMPTY, x -> x.status(5), 0);
         edges.asks("what it had", EMPTY, x -> x.wipe(), 0);
+        edges.of(1, "SHELVES 0 to 7 hold NOTHING (at first), a ROW, or a RULE.");
+        edges.asks("an element", EMPTY, x -> x.element(7, 0), 0);
         edges.of(1, "THE YEAR (0 at first).");
         edges.asks("THE YEAR", EMPTY, x -> x.status(2), 0);
         edges.of(1, "ANEW (0 to 99; 0 at first)");
@@ -281,7 +283,7 @@ public final class ShelfEdgeTest {
     }
 
     private static void says() {
-        edges.of(8, "RULE its a");
+        edges.of(8, "What the RULE in SHELF s, taken for one of a KIND, says: RULE its a");
         edges.asks("NEAR by 7", RICH, x -> x.says(2, 0), 7);
         edges.asks("HOME by 2", RICH, x -> x.says(3, 0), 2);
         edges.asks("FAR by 99, the most", FULL, x -> x.says(5, 0), 99);

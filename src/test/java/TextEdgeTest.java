@@ -225,7 +225,10 @@ public final class TextEdgeTest {
                 edges.fault("byte " + b + " behind ;", RICH, "one 1; " + (char) b, 7);
             }
         }
+        edges.of(15, "The FAULT: the place of the first byte of the first TOKEN that can't stand there");
         edges.fault("what can't stand there ahead of it comes first", RICH, "one 1 1 #", 6);
+        edges.fault("the first byte, not the last", RICH, "one  seven", 5);
+        edges.fault("of two the first", RICH, "anew 100;one 8", 5);
         edges.of(15, "WORDS (a .. z), NUMBERS (digits), the SIGN ;");
         edges.fault("a WORD of a alone", RICH, "one 1;a", 6);
         edges.fault("a WORD of z alone", RICH, "one 1;z", 6);

@@ -212,8 +212,16 @@ public final class WholeEdgeTest {
         edges.due("status(14)", y.status(14), 1);
         edges.due("a FAULT", y.land(), -20);
         edges.due("is BAD", y.status(12), 1);
-        edges.of(48, "nothing of that number");
-        edges.due("no ROAD", y.left(0), Check.BAD);
-        edges.due("is BAD", y.status(12), 2);
+        edges.of(48, "-2 BAD a number that may not be, nothing of that number. -3 OTHER: a SHELF that holds another thing than is wanted. "
+            + "-4 NOTHING: a SHELF that holds NOTHING. -5 STUCK: it can't be as things stand. -6 FULL.");
+        edges.due("a number that may not be", Edges.rich().anew(100), -2);
+        edges.due("nothing of that number", Edges.rich().left(2), -2);
+        edges.due("another thing than is wanted", Edges.rich().set(2, 0, 0), -3);
+        edges.due("holds NOTHING", Edges.rich().set(5, 0, 0), -4);
+        edges.due("as things stand", Edges.rich().go(0, 0), -5);
+        edges.due("full", Edges.full().one(0), -6);
+        edges.of(48, "the call answers the number; nothing changes but how many there were; the first that fits as each line has them");
+        edges.due("first BAD, though it is FULL", Edges.full().one(8), -2);
+        edges.due("then FULL", Edges.full().one(7), -6);
     }
 }
