@@ -187,7 +187,7 @@ public final class CanBeEdgeTest {
         edges.range("what of one", land("road 0 7 miles 60;one 7"), v -> x -> x.longest(0, v), 0, 2, v -> single[v]);
         edges.range("one", FULL, v -> x -> x.longest(v, 0), 0, 5, v -> 11);
         edges.refused("one 0 where there are none", EMPTY, x -> x.longest(0, 0), Check.BAD);
-        edges.of(35, "of all rows of them that can be gone along from where they are");
+        edges.of(35, "LONGEST: of all rows of them that can be gone along from where they are");
         Supplier<EachRoadOnce> fork = land("road 0 1 miles 60;road 0 2 miles 1;road 2 3 miles 1;road 3 4 miles 1;road 0 5 miles 9;road 5 0 miles 9;one 0");
         int[] want = {5, 78, 5};
         edges.range("what at a fork", fork, v -> x -> x.longest(0, v), 0, 2, v -> want[v]);
@@ -239,7 +239,7 @@ public final class CanBeEdgeTest {
             int p = a;
             edges.refused("to itself, " + a, FULL, x -> x.errands(0, p, p), Check.BAD);
         }
-        edges.of(36, "how many ways from A to B there are of which no two have a ROAD");
+        edges.of(36, "ERRANDS from A to B: how many ways from A to B there are of which no two have a ROAD");
         for (int n = 0; n <= 16; n++) {
             edges.asks(n + " ROADS side by side", many(n), x -> x.errands(0, 0, 1), n);
             edges.asks(n + " ROADS side by side, turned", many(n), x -> x.errands(0, 1, 0), n);
@@ -264,7 +264,7 @@ public final class CanBeEdgeTest {
             int p = a;
             edges.refused("to itself, " + a, FULL, x -> x.cut(0, p, p), Check.BAD);
         }
-        edges.of(37, "of all sets of PLACES with A, without B, that just so many of these ROADS leave (one end in it, one not), the least");
+        edges.of(37, "CUT: of all sets of PLACES with A, without B, that just so many of these ROADS leave (one end in it, one not), the least");
         edges.asks("A alone, without ROADS", land("one 0"), x -> x.cut(0, 7, 0), 128);
         edges.asks("A alone, without ROADS", land("one 0"), x -> x.cut(0, 0, 7), 1);
         String line = "one 0;road 0 1 miles 1;road 1 2 miles 1;road 2 3 miles 1";
@@ -309,7 +309,7 @@ public final class CanBeEdgeTest {
     }
 
     private static void meets() {
-        edges.of(38, "of a row of wants (PLACES, 8 at most) the greatest number k such that one can go to the first k of them in this order, from where they are");
+        edges.of(38, "MEETS: of a row of wants (PLACES, 8 at most) the greatest number k such that one can go to the first k of them in this order, from where they are");
         edges.range("n", many(10), v -> x -> x.meets(0, 0, v), 0, 8, v -> v);
         edges.range("n of one ROAD", many(1), v -> x -> x.meets(0, 0, v), 0, 8, v -> Math.min(v, 1));
         edges.range("n of three ROADS", many(3), v -> x -> x.meets(0, 0, v), 0, 8, v -> Math.min(v, 3));
@@ -449,7 +449,7 @@ public final class CanBeEdgeTest {
         edges.refused("the PLACE, if there is none", apart, x -> x.together(1, 0, 2), Check.STUCK);
         edges.outside("what ahead of STUCK", apart, v -> x -> x.together(0, 1, v), 0, 2);
         edges.refused("one with themselves ahead of STUCK", apart, x -> x.together(1, 1, 2), Check.BAD);
-        edges.of(40, "PLACES in REACH of both (by all LEFT ROADS); the least sum of MILES by which they can meet, each by their own ROADS.");
+        edges.of(40, "TOGETHER of two: PLACES in REACH of both (by all LEFT ROADS); the least sum of MILES by which they can meet, each by their own ROADS.");
         Supplier<EachRoadOnce> halves = land("road 0 1 miles 1;road 1 2 miles 1;road 2 3 miles 1;one 0;one 3;gone 0 1;gone 1 2");
         edges.refused("each by their own: they can't", halves, x -> x.together(0, 1, 1), Check.STUCK);
         Supplier<EachRoadOnce> meet = land("road 0 1 miles 1;road 1 2 miles 1;road 2 3 miles 1;one 0;one 3;gone 0 2;gone 1 1");
@@ -468,7 +468,7 @@ public final class CanBeEdgeTest {
         edges.of(41, "FREES. BAD.");
         edges.range("one", FULL, v -> x -> x.frees(v), 0, 5, v -> 0x7f);
         edges.refused("one 0 where there are none", EMPTY, x -> x.frees(0), Check.BAD);
-        edges.of(41, "PLACES (bits), others than where one is, from which HOME can be come to by ROADS LEFT");
+        edges.of(41, "FREES: PLACES (bits), others than where one is, from which HOME can be come to by ROADS LEFT");
         for (int home = 0; home < 8; home++) {
             edges.asks("at HOME without ROADS", land("one " + home), x -> x.frees(0), 0);
             edges.asks("HOME itself", land("one " + home + ";at 0 " + (home + 1) % 8), x -> x.frees(0), 1 << home);
@@ -496,7 +496,7 @@ public final class CanBeEdgeTest {
         edges.outside("road of four", RICH, v -> x -> x.send(0, v), 0, 3);
         edges.refused("nobody, no ROAD: one refusal", EMPTY, x -> x.send(0, 0), Check.BAD);
         edges.asks("nobody else: NONE isn't refused", land("road 0 1 miles 1;one 0"), x -> x.send(0, 0), -1);
-        edges.of(42, "of the others who are at an end of a told ROAD the first to whom it is LEFT");
+        edges.of(42, "SEND: of the others who are at an end of a told ROAD the first to whom it is LEFT");
         String text = "road 3 4 miles 1;road 4 3 miles 1 round;one 3;one 4;one 3;one 4;one 3;one 4";
         for (int first = 0; first < 6; first++) {
             StringBuilder gone = new StringBuilder(text);
@@ -555,7 +555,7 @@ public final class CanBeEdgeTest {
     }
 
     private static void draws() {
-        edges.of(44, "SEED (1 at first) becomes SEED times 1103515245, and 12345 (an int, wrapping); its upper 16 bits, no sign, modulo n.");
+        edges.of(44, "A DRAW below n: SEED (1 at first) becomes SEED times 1103515245, and 12345 (an int, wrapping); its upper 16 bits, no sign, modulo n.");
         int[] seeds = {1, 0, -1, 2, 3, 4, 5, 77, -77, Integer.MAX_VALUE, Integer.MIN_VALUE, 0x40000000, 0x7fff0000, 123456789, -987654321};
         int below = 0;
         for (int ways = 1; ways <= 16; ways++) {
@@ -585,7 +585,7 @@ public final class CanBeEdgeTest {
         x.wander(0, 1);
         edges.due("the first of them", x.when(0, 3), drawn == 0 ? 0 : -1);
         edges.due("the second of them", x.when(0, 4), drawn == 1 ? 0 : -1);
-        edges.of(44, "n times one of the ROADS LEFT");
+        edges.of(44, "WANDERING by draws: n times one of the ROADS LEFT");
         EachRoadOnce y = Check.read("road 0 1 miles 1 round;one 0");
         y.wander(0, 60);
         long seed = 1;

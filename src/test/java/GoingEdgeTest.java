@@ -269,7 +269,7 @@ public final class GoingEdgeTest {
     }
 
     private static void run() {
-        edges.of(26, "till it says none, or n ROADS are gone along (0 to 60)");
+        edges.of(26, "again and again the ROAD it says, till it says none, or n ROADS are gone along (0 to 60).");
         Supplier<EachRoadOnce> round = ruled("road 0 1 miles 60 round;one 0;one 1");
         edges.range("n", round, v -> x -> x.run(1, 0, v, 0), 0, 60, v -> v);
         edges.range("n, MILES", round, v -> x -> x.run(4, 0, v, 1), 0, 60, v -> 60 * v);
@@ -295,7 +295,7 @@ public final class GoingEdgeTest {
         };
         edges.asks("how many of the RUN alone", gone, x -> x.run(1, 0, 60, 0), 1);
         edges.asks("MILES of the RUN alone", gone, x -> x.run(1, 0, 60, 1), 6);
-        edges.of(26, "from how all is now, nothing being changed");
+        edges.of(26, "A RUN by a RULE: from how all is now, nothing being changed:");
         for (int what = 0; what <= 4; what++) {
             int w = what;
             edges.asks("nothing, what " + what, line, x -> x.run(6, 0, 60, w), want[what]);

@@ -74,7 +74,7 @@ public final class LandEdgeTest {
     }
 
     private static void roadAtFirst() {
-        edges.of(9, "shut or not (at first open)");
+        edges.of(9, "shut or not (at first open), ROUND or not");
         edges.fine("open", RICH, x -> x.road(5, 6, 1, false) == 4 ? x.roadOf(4, 3) : Check.BAD, 0);
         edges.of(9, "of each ROAD the YEAR in which they went along it last, or none (at first none)");
         edges.fine("one 0", RICH, x -> x.road(5, 6, 1, true) == 4 ? x.when(0, 4) : Check.BAD, -1);
@@ -102,7 +102,7 @@ public final class LandEdgeTest {
     private static void oneAtFirst() {
         for (int home = 0; home < 8; home++) {
             int h = home;
-            edges.of(10, "a PLACE where they are (HOME at first)");
+            edges.of(10, "a HOME, a PLACE where they are (HOME at first)");
             edges.fine("PLACE", RICH, x -> x.one(h) == 2 ? x.oneOf(2, 1) : Check.BAD, h);
             edges.of(10, "BEEN: PLACES (bits) where they have been (HOME at first)");
             edges.fine("BEEN", RICH, x -> x.one(h) == 2 ? x.oneOf(2, 2) : Check.BAD, 1 << h);

@@ -60,7 +60,7 @@ public final class ShelfEdgeTest {
         edges.of(2, "A ROW has a SORT (0 bytes, 1 shorts, 2 ints, 3 longs, 4 booleans)");
         edges.range("sort", RICH, v -> x -> x.row(0, v, 3), 0, 4, v -> 1);
         edges.range("sort, then holds", EMPTY, v -> x -> x.row(0, v, 3) == 1 ? x.holds(0) : Check.BAD, 0, 4, v -> v);
-        edges.of(2, "0 to 40 elements");
+        edges.of(2, "and 0 to 40 elements");
         edges.range("n", RICH, v -> x -> x.row(0, 2, v), 0, 40, v -> 1);
         edges.range("n in SHELF 7 that holds NOTHING", RICH, v -> x -> x.row(7, 4, v), 0, 40, v -> 1);
         edges.of(2, "SHELF s holds a new ROW: 1. BAD.");
@@ -325,23 +325,36 @@ public final class ShelfEdgeTest {
 
     private static void saysKinds() {
         edges.of(8, "OTHER (also if it is of no such KIND nor of one under it)");
-        // By each KIND the KINDS that it is of: under NEAR, which is under RULE, are KEEP and NEW; under KEEP is HOME.
-        int[][] isOf = {{}, {0, 1}, {0, 1, 2}, {0, 1, 3}, {0, 4}, {0, 1, 2, 5}, {0, 6}};
-        for (int kind = 1; kind <= 6; kind++) {
-            int k = kind;
-            Supplier<EachRoadOnce> made = () -> {
-                EachRoadOnce x = Edges.rich();
-                x.rule(7, k, 33);
-                return x;
-            };
-            for (int as = 0; as <= 6; as++) {
-                int taken = as;
-                boolean is = Arrays.stream(isOf[kind]).anyMatch(i -> i == taken);
-                if (is) {
-                    edges.asks("KIND " + kind + " taken for KIND " + as, made, x -> x.says(7, taken), as == 0 ? 33 : 1);
-                } else {
-                    edges.refused("KIND " + kind + " taken for KIND " + as, made, x -> x.says(7, taken), Check.OTHER);
-                }
+        edges.refused("NEAR taken for KEEP, which is under it", RICH, x -> x.says(2, 2), Check.OTHER);
+        edges.asks("HOME taken for NEAR, which it is under by KEEP", RICH, x -> x.says(3, 1), 1);
+        edges.of(8, "RULES have a KIND and a (0 to 99) and say which LEFT ROAD one takes next (NONE: none): 0 RULE; 1 NEAR, under RULE:");
+        takenFor(1, 0, 1);
+        edges.of(8, "2 KEEP, under NEAR:");
+        takenFor(2, 0, 1, 2);
+        edges.of(8, "3 NEW, under NEAR:");
+        takenFor(3, 0, 1, 3);
+        edges.of(8, "4 FAR, under RULE:");
+        takenFor(4, 0, 4);
+        edges.of(8, "5 HOME, under KEEP:");
+        takenFor(5, 0, 1, 2, 5);
+        edges.of(8, "6 LOW, under RULE:");
+        takenFor(6, 0, 6);
+    }
+
+    /** A RULE of a KIND may be taken for each of these KINDS, and for no other. */
+    private static void takenFor(int kind, int... kinds) {
+        Supplier<EachRoadOnce> made = () -> {
+            EachRoadOnce x = Edges.rich();
+            x.rule(7, kind, 33);
+            return x;
+        };
+        for (int as = 0; as <= 6; as++) {
+            int taken = as;
+            boolean is = Arrays.stream(kinds).anyMatch(i -> i == taken);
+            if (is) {
+                edges.asks("KIND " + kind + " taken for KIND " + as, made, x -> x.says(7, taken), as == 0 ? 33 : 1);
+            } else {
+                edges.refused("KIND " + kind + " taken for KIND " + as, made, x -> x.says(7, taken), Check.OTHER);
             }
         }
     }

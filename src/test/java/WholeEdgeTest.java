@@ -220,7 +220,7 @@ public final class WholeEdgeTest {
         edges.due("holds NOTHING", Edges.rich().set(5, 0, 0), -4);
         edges.due("as things stand", Edges.rich().go(0, 0), -5);
         edges.due("full", Edges.full().one(0), -6);
-        edges.of(48, "the call answers the number; nothing changes but how many there were; the first that fits as each line has them");
+        edges.of(48, "REFUSALS (the call answers the number; nothing changes but how many there were; the first that fits as each line has them");
         edges.due("first BAD, though it is FULL", Edges.full().one(8), -2);
         edges.due("then FULL", Edges.full().one(7), -6);
     }
